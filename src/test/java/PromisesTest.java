@@ -20,6 +20,7 @@ public final class PromisesTest {
         set();
         evening();
         eveningEdges();
+        eight();
         round();
         rules();
         bookAndOwn();
@@ -112,6 +113,12 @@ public final class PromisesTest {
         due("end: some", x.end(3), 8);
         due("end: again", x.end(0), 3);
         due("end: far below", x.end(MIN), WhoseRound.BAD);
+        x.feed(0x626567696e6e6e6eL); // beginnnn
+        x.end(5);
+        due("end: a NAME is cut", x.table(), -10 - 5);
+        x.feed(0x626567696e203131L); // begin 11
+        x.end(7);
+        due("end: a NUMBER is cut", x.table(), -10 - 7);
     }
 
     private static void table() {
@@ -144,6 +151,14 @@ public final class PromisesTest {
         due("table: SHEETS stay", x.count(5), 3);
         due("table: of no text", x.table(), 0);
         due("table: nobody then", x.count(0), 0);
+        Check.write(x, "begin 2;one 5 9 1 1 poor part 2 purse 3;");
+        due("table: two lines", x.table(), 2);
+        Check.write(x, "begin 3;one 0 1 1 1;");
+        due("table: begin is told once each", x.table(), 2);
+        due("table: begin", x.count(6), 3);
+        due("table: purse as at first", x.one(0, 4), 999);
+        due("table: part as at first", x.one(0, 5), 1);
+        due("table: not poor as at first", x.one(0, 6), 0);
     }
 
     private static void fault(String text, int fault, int place) {
@@ -164,6 +179,14 @@ public final class PromisesTest {
         fault("1234", 1, 0);
         fault(";", 2, 0);
         fault("  12", 2, 2);
+        fault("z", 2, 0);
+        fault("{", 1, 0);
+        fault("`", 1, 0);
+        fault("one 0 1 1 1:", 1, 11);
+        fault("one 0 1 1 1/", 1, 11);
+        fault("one 0 999", 3, 6);
+        fault("tne 0 1 1 1;", 2, 0);
+        fault("on 0 1 1 1;", 2, 0);
         fault("ones 0", 2, 0);
         fault("purse 3;", 2, 0);
         fault("one 0 1 1 1 one", 2, 12);
@@ -273,6 +296,44 @@ public final class PromisesTest {
         due("EVER is not of who is at no ROUND", away.evening(OWN, 0, 4), 0);
         due("WORST is", away.evening(OWN, 0, 2), 500);
         due("whose WORST is", away.evening(OWN, 0, 3), 2);
+        WhoseRound ever = Check.tableOf("one 0 9 5 9;one 0 9 5 9;one 0 9 5 9;");
+        due("EVER of the first one", ever.evening(TURN, 0, 4), 10);
+        WhoseRound end = Check.tableOf("one 5 240 5 60 purse 5;");
+        due("EMPTY at the end of an EVENING", end.evening(TURN, 0, 5), 175);
+        due("not so at another's beginning", end.evening(TURN, 0, 5), 175);
+    }
+
+    private static void eight() {
+        WhoseRound x = Check.tableOf("one 0 240 1 99;".repeat(8));
+        for (int rule = 0; rule < 7; rule++) {
+            due("eight: ROUNDS by " + rule, x.evening(rule, 1, 0), 3);
+            due("eight: COST by " + rule, x.evening(rule, 1, 1), 24);
+        }
+        due("eight: OWE", x.round(OWE, 0, 2, 1), 2);
+        due("eight: all", x.round(OWE, 0, 2, 3), 255);
+        due("eight: WORST", x.best(0), 5);
+        due("eight: of several rows the first", x.best(10) * 100 + x.best(11) * 10 + x.best(12), 12);
+        due("eight: lot", x.lot(7, 0), 3);
+        due("eight: lot", x.lot(7, 1), 1);
+        due("eight: SPREAD", x.lot(7, 2), 21);
+        due("eight: right", x.right(TURN, 0, 7, 0), 3);
+        due("eight: fridays", x.fridays(TURN, 0, 8, 0), 0);
+        due("eight: fairest", x.fairest(0, 0), OWN);
+        due("eight: sure", x.sure(0, 1), 0);
+        due("eight: goes", x.goes(TURN, 0), 3);
+        due("eight: CARRIED", x.one(7, 7), -3);
+        due("eight: coins", x.coins(0), 7);
+        due("eight: sets", x.coins(1), 1);
+        for (int p = 0; p < 8; p++) {
+            x.book(p);
+            x.think(p, 8);
+        }
+        due("eight: judge", x.judge(TURN, 0, 0), WhoseRound.NONE);
+        due("eight: thought", x.thought(TURN, 0, 0), 40);
+        due("eight: keep", x.keep(0), 0);
+        due("eight: back", x.back(0), 8);
+        due("eight: the last", x.think(7, 0), 8);
+        due("eight: no ninth", x.book(8), WhoseRound.BAD);
     }
 
     private static void round() {
@@ -338,6 +399,8 @@ public final class PromisesTest {
         due("OWN: who has not enough gets none", own.round(OWN, 0, 1, 3), 1);
         due("OWN: but is there", own.round(OWN, 0, 1, 4), 3);
         due("OWN: COSTS what these cost", own.evening(OWN, 0, 1), 27);
+        own.set(1, 4, 14);
+        due("OWN: just enough", own.round(OWN, 0, 1, 3), 3);
         own.set(0, 4, 4);
         own.set(1, 4, 6);
         due("OWN: nobody can", own.evening(OWN, 0, 0), 0);
@@ -396,6 +459,9 @@ public final class PromisesTest {
         due("best: what below 0", x.best(-1), WhoseRound.BAD);
         due("best: far", x.best(MIN), WhoseRound.BAD);
         due("best: adopt", x.adopt(), 4);
+        due("best: purses are looked at then as ever", x.evening(TURN, 0, 5), 60);
+        due("best: by OWN nobody buys", x.evening(OWN, 0, 2), 0);
+        due("best: but by BEST somebody", x.best(0), least);
         x.set(0, 4, 999);
         x.set(2, 4, 999);
         due("best: its WORST by BOOK", x.evening(BOOK, 0, 2), least);
@@ -440,6 +506,7 @@ public final class PromisesTest {
         six.set(0, 3, 39);
         due("best: more than 6 ROUNDS", six.best(1), WhoseRound.STATE);
         due("best: no such what first", six.best(3), WhoseRound.BAD);
+        due("best: no such what first", six.best(16), WhoseRound.BAD);
         due("best: STATE ahead of no such ROUND", six.best(15), WhoseRound.STATE);
         due("adopt: more than 6 ROUNDS", six.adopt(), WhoseRound.STATE);
         WhoseRound poor = Check.tableOf("one 0 240 5 99 poor;one 1 240 5 99;begin 2;");
@@ -524,6 +591,9 @@ public final class PromisesTest {
         due("late: at 0", early.late(0, TURN, 0, 1), 0);
         WhoseRound last = Check.tableOf("one 0 2 5 99;one 0 2 9 99;");
         due("late: the last MINUTE ahead of GOES", last.late(0, TURN, 0, 1), 1);
+        WhoseRound gone = Check.tableOf("one 0 1 5 99;one 0 240 9 99;");
+        due("late: not when one GOES", gone.late(0, TURN, 0, 0), 0);
+        due("late: as it is", gone.late(0, TURN, 0, 1), 0);
         due("late: nobody", x.late(2, TURN, 0, 0), WhoseRound.BAD);
         due("late: below", x.late(-1, TURN, 0, 0), WhoseRound.BAD);
         due("late: rule", x.late(0, 7, 0, 0), WhoseRound.BAD);
@@ -595,6 +665,7 @@ public final class PromisesTest {
         // ROUNDS of 5 by 0 alone, then 12 by 0 or 1, then 5 by 0 alone.
         WhoseRound x = Check.tableOf("one 0 240 5 99 purse 1;one 10 109 7 99;begin 2;");
         long[][] want = {{16, 1, 36, 1}, {6, 1, 36, 1}};
+        due("lot: purses are looked at but BY LOT", x.evening(OWN, 0, 0), 1);
         for (int p = 0; p < 2; p++) {
             for (int what = 0; what < 4; what++) {
                 due("lot " + p + " " + what, x.lot(p, what), want[p][what]);
@@ -607,10 +678,14 @@ public final class PromisesTest {
             due("lot of 8 by three " + what, three.lot(2, what), rich[what]);
             due("lot of a poor one " + what, three.lot(3, what), poor[what]);
         }
-        three.set(0, 6, 1);
-        three.set(1, 6, 1);
-        three.set(2, 6, 1);
+        for (int p = 0; p < 3; p++) {
+            three.set(p, 6, 1);
+        }
         due("lot: nobody there could buy", three.lot(0, 0), WhoseRound.NONE);
+        WhoseRound waits = Check.tableOf("one 0 9 2 9 poor;one 1 9 2 9;");
+        due("lot: nobody there could buy in one MINUTE", waits.lot(1, 0), WhoseRound.NONE);
+        waits.set(1, 0, 0);
+        due("lot: somebody could", waits.lot(1, 0), 4);
         due("lot: BAD first", three.lot(4, 0), WhoseRound.BAD);
         due("lot: below", three.lot(-1, 0), WhoseRound.BAD);
         due("lot: what", three.lot(0, 4), WhoseRound.BAD);
@@ -679,8 +754,18 @@ public final class PromisesTest {
         due("coins: BAD first", x.coins(2), WhoseRound.BAD);
         due("coins: below", x.coins(-1), WhoseRound.BAD);
         x.set(2, 7, -1);
-        due("coins: no two are even", x.coins(0), 4);
+        due("coins: 4 to 3 and 1, 5 to 2 and 3", x.coins(0), 4);
         due("coins: sets of three", x.coins(1), 2);
+        int[][] rows = {{7, -7, 1, -1, 2, -2}, {1, 1, 1, 1, 1, -5}, {-9, 4, 5, 0, 0, 0}, {1, 2, -3, -3, 2, 1},
+            {1, 2, 4, 8, -5, -10}, {-99999, 99999, 0, 0, 1, -1}};
+        int[] sets = {3, 1, 4, 2, 2, 4};
+        for (int i = 0; i < rows.length; i++) {
+            for (int p = 0; p < 6; p++) {
+                x.set(p, 7, rows[i][p]);
+            }
+            due("coins: row " + i, x.coins(0), 6 - sets[i]);
+            due("coins: sets of row " + i, x.coins(1), sets[i]);
+        }
         due("coins: of nobody", new WhoseRound().coins(0), 0);
     }
 
@@ -703,7 +788,13 @@ public final class PromisesTest {
         due("thought: more", x.thought(TURN, 0, 0), 6);
         due("thought: so", x.thought(TURN, 0, 1), 1);
         due("thought: who", x.thought(TURN, 0, 2), 1);
+        x.think(1, 25);
+        due("thought: a penny too much", x.thought(TURN, 0, 2), 1);
+        x.think(1, 24);
+        due("thought: both are so", x.thought(TURN, 0, 1), 2);
         x.think(0, 30);
+        x.think(1, 30);
+        due("thought: none is so", x.thought(TURN, 0, 1), 0);
         due("thought: of several the least", x.thought(TURN, 0, 2), 0);
         due("thought: rule", x.thought(7, 0, 0), BAD_PENCE);
         due("thought: what", x.thought(0, 0, 3), BAD_PENCE);
@@ -728,6 +819,8 @@ public final class PromisesTest {
         x.think(0, 4);
         x.set(1, 7, 9);
         x.set(0, 2, 99);
+        x.shut();
+        x.book(0);
         x.book(0);
         x.sheet(0, 0, 4);
         Check.write(x, "!");
@@ -739,6 +832,7 @@ public final class PromisesTest {
         due("back: CARRIED", x.one(1, 7), 8);
         due("back: PRICE", x.one(0, 2), 5);
         due("back: the BOOK", x.count(2), 1);
+        buyers("back: the BOOK", x, BOOK, 0, 1, 0);
         due("back: FAULT stays", x.fault(), 1);
         due("back: THE TAPE stays", x.count(4), 3);
         due("back: SHEETS stay", x.count(5), 4);
@@ -774,6 +868,9 @@ public final class PromisesTest {
         buyers("sheet: anew, of 0", x, BOOK, 0, 0);
         due("sheet: of none", x.sheet(0, 2, 0), 1);
         due("sheet: of none, CELLS", x.count(5), 0);
+        due("sheet: of none, INDEX", x.lay(0, 0, 0), -12);
+        due("sheet: of none, none read", x.read(0, 2, 0, 1), 0);
+        due("sheet: of none, INDEX", x.torn(), 2);
     }
 
     private static void lay() {
