@@ -303,8 +303,8 @@ public final class WhoseRound {
         if (!people.has(p) || !within(what, 4)) {
             return BAD;
         }
-        night.open(TURN, 0);
-        night.playWithoutPurses();
+        night.openWithoutPurses();
+        night.play();
         if (night.blocked > 0) {
             return NONE;
         }
@@ -750,7 +750,7 @@ public final class WhoseRound {
 
         private boolean readLine() {
             if (tape.isName("one")) {
-                return readOne();
+                return readOne() && readWiths(told.many - 1);
             }
             if (tape.isName("begin")) {
                 return readBegin();
@@ -770,7 +770,7 @@ public final class WhoseRound {
                 }
                 told.facts[what][p] = tape.value;
             }
-            return readWiths(p);
+            return true;
         }
 
         private boolean readWiths(int p) {
@@ -902,6 +902,7 @@ public final class WhoseRound {
         void open(int byRule, int withSeed) {
             rule = byRule;
             seed = withSeed;
+            purses = true;
             lastBuyer = SEATS - 1;
             allRounds = 0;
             for (int p = 0; p < people.many; p++) {
@@ -910,17 +911,16 @@ public final class WhoseRound {
             }
         }
 
+        /** For what is known beforehand: whoever buys, the ROUNDS are the same if purses are not looked at. */
+        void openWithoutPurses() {
+            open(TURN, 0);
+            purses = false;
+        }
+
         void carryOn() {
             for (int p = 0; p < people.many; p++) {
                 seats[p].carried = seats[p].out();
             }
-        }
-
-        /** Plays as play() does, but purses are not looked at. */
-        void playWithoutPurses() {
-            purses = false;
-            play();
-            purses = true;
         }
 
         void play() {
@@ -1231,8 +1231,8 @@ public final class WhoseRound {
 
         /** How many ROUNDS; STATE, NONE. */
         int make() {
-            night.open(TURN, 0);
-            night.playWithoutPurses();
+            night.openWithoutPurses();
+            night.play();
             if (night.many > BEST_ROUNDS) {
                 return STATE;
             }
