@@ -4,12 +4,15 @@ import java.util.Random;
 /** Random runs of calls, ordinary and wild, answered by the program and by the document written plainly. */
 public final class SameAsPlainTest {
     private static final int RUNS = 2500, CALLS = 110;
+    // What an object answers behind its 512th call is free; no turn of a run makes 50 calls.
+    private static final int MOST_MADE = 512 - 50;
     private static final int[] WILD = {-1, -2, 7, 8, 9, 12, 13, 40, 41, 60, 61, 99, 100, 239, 240, 241, 999, 1000,
         9999, 10000, -99999, -100000, 99999, 100000, Integer.MIN_VALUE, Integer.MAX_VALUE, Integer.MIN_VALUE + 9};
 
     private static Random random;
     private static WhoseRound x;
     private static PlainWhoseRound y;
+    private static int made;
 
     private SameAsPlainTest() {
     }
@@ -19,10 +22,11 @@ public final class SameAsPlainTest {
             random = new Random(run);
             x = new WhoseRound();
             y = new PlainWhoseRound();
+            made = 0;
             if (random.nextInt(20) > 0) {
                 tell(validTable());
             }
-            for (int i = 0; i < CALLS && !Check.anyWrong(); i++) {
+            for (int i = 0; i < CALLS && made < MOST_MADE && !Check.anyWrong(); i++) {
                 callOne("run " + run + ", call " + i + ": ");
             }
         }
@@ -38,6 +42,7 @@ public final class SameAsPlainTest {
     }
 
     private static void due(String call, long got, long want, int... args) {
+        made++;
         StringBuilder told = new StringBuilder(call);
         for (int arg : args) {
             told.append(' ').append(arg);
@@ -85,6 +90,7 @@ public final class SameAsPlainTest {
 
     /** Both get a text on THE TAPE and are asked what table it tells. */
     private static void tell(String text) {
+        made++;
         int most = Math.min(text.length(), 320);
         byte[] bytes = text.substring(0, most).getBytes(StandardCharsets.ISO_8859_1);
         x.end(0);
@@ -209,6 +215,7 @@ public final class SameAsPlainTest {
     /** What is CARRIED becomes small numbers whose sum is 0. */
     private static void evenOut(String ahead) {
         int sum = 0;
+        made++;
         int people = x.count(0);
         for (int p = 0; p < people; p++) {
             int v = p == people - 1 ? -sum : random.nextInt(9) - 4;
@@ -218,6 +225,7 @@ public final class SameAsPlainTest {
     }
 
     private static void thinks(String ahead, int p) {
+        made++;
         int v = random.nextBoolean() ? pick(10000) : Math.max(-1, x.of(0, 0, p, 1));
         due(ahead + "think", x.think(p, v), y.think(p, v), p, v);
     }
