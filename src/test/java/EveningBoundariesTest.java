@@ -407,6 +407,7 @@ public final class EveningBoundariesTest {
         due("promise 8: EVER of no ROUND", none.evening(TURN, 0, 4), 0);
         due("promise 8: WORST of no ROUND", none.evening(TURN, 0, 2), 500);
         due("promise 8: whose, of no ROUND", none.evening(TURN, 0, 3), 0);
+        due("promise 8: EVER of no ROUND, asked again", none.evening(TURN, 0, 4), 0);
     }
 
     private static void eveningOfNobody() {
